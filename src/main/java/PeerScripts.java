@@ -173,6 +173,7 @@ public final class PeerScripts {
             sizes = new int[count];
         }
 
+        // The shortest methods look at their index themselves: they are called eight deep already.
         private boolean holds(int i) {
             return i >= 0 && i < sizes.length;
         }

@@ -18,6 +18,8 @@ public final class TermsTest {
         patterns();
         peer();
         waiting();
+        oneAfterAnother();
+        textsThatFillTheRoom();
         Check.end();
     }
 
@@ -333,7 +335,8 @@ public final class TermsTest {
             {"-2147483648/-1", "-2147483648"}, {"-2147483648%-1", "0"}, {"-2147483648", "-2147483648"},
             {"((((((((7))))))))", "7"}, {"((((((((1))))))))+((((((((2))))))))", "3"}, {"0000000012", "12"},
             {"1 +2 * ( 3 - 1 )", "5"}, {"- ( - 3 )", "3"}, {"1-!1", "1"}, {"2*-3+1", "-5"}, {"2147483648<0", "1"},
-            {"-------------------------------------------------------------------5", "-5"}, {"1=1&1=2|3", "1"}};
+            {"-------------------------------------------------------------------5", "-5"}, {"1=1&1=2|3", "1"}, {"2*(0|5)", "2"}, {"3*(2|0)+1", "4"},
+            {"(0|1)&(1|0)", "1"}};
         for (String[] sum : sums) {
             due("e {" + sum[0] + "}", "0:" + sum[1] + "/1");
         }
@@ -439,5 +442,73 @@ public final class TermsTest {
         Check.same("only beginnings fit", middle.run(30) + middle.x.buffered(), "0:T/53");
         Lab taken = counting("k {k {k {k {k {k {k {< 1 a {}} q}}}}}};s q");
         Check.same("taken before its script fails", taken.run(30) + taken.x.buffered(), "0:E8/100");
+    }
+
+    /** Nothing of a command, an expression or a text may be left for the next. */
+    private static void oneAfterAnother() {
+        due("k {e {1/0}};e {1}", "0:1/3");
+        due("k {e {$z}};e {2}", "0:2/3");
+        due("k {e {((1}};e {3}", "0:3/3");
+        due("k {e {1+-}};e {4}", "0:4/3");
+        due("k {e {(}};k {e {1)}} b;s b", "0:E1/5");
+        due("k {l a} b;k x", "1:E3/3");
+        due("? {1} {l a};? 1 b", "1:E3/3");
+        due("s a {" + A20 + "};s b c;s b", "0:c/3");
+        due("k {l abc} a;k {l ab};s a", "0:3/5");
+        due("i a 1;s a", "1:E4/1");
+        due("s a 1;i a 5;i a;s a", "0:7/4");
+        due("? {0} {l a} {l abc};? {0} {l a}", "0:/3");
+        Lab deep = Lab.with("p F n {F $n};F 1");
+        Check.same("a call that is too deep sets nothing", deep.run(50) + deep.variable('n'), "1:E8/9null");
+        Lab lab = new Lab();
+        lab.say("l a b");
+        lab.say("s a $");
+        Check.same("a letter of the old text is no name", lab.run(9), "0:$/1");
+        lab.say("s a bc}");
+        lab.say("s a {c");
+        Check.same("a brace of the old text closes nothing", lab.run(9), "1:E1/0");
+        lab.say("s a bc\"");
+        lab.say("s a \"c");
+        Check.same("nor does a quote", lab.run(9), "1:E1/0");
+        lab.say("s a [l b]");
+        lab.say("s a [l b");
+        Check.same("nor a bracket", lab.run(9), "1:E1/0");
+        lab.say("s a bc");
+        lab.say("s a b\\");
+        Check.same("nor is there a character behind a \\", lab.run(9), "1:E1/0");
+    }
+
+    private static String filled(String begin, String end) {
+        return begin + " ".repeat(200 - begin.length() - end.length()) + end;
+    }
+
+    private static void textsThatFillTheRoom() {
+        due(filled("", "l {abc}"), "0:3/1");
+        due(filled("", "? {1} {l ab}"), "0:2/2");
+        due(filled("", "l \"abc\""), "0:3/1");
+        due(filled("", "l abc"), "0:3/1");
+        due(filled("l [", "l abc]"), "0:1/2");
+        due(filled("l ", "{ab"), "1:E1/0");
+        due(filled("l ", "\"ab"), "1:E1/0");
+        due(filled("l ", "[l ab"), "1:E1/0");
+        due(filled("l ", "ab\\"), "1:E1/0");
+        due(filled("l ", "ab$"), "0:3/1");
+        due(filled("l ", "{"), "1:E1/0");
+        due(filled("l ", "["), "1:E1/0");
+        due(filled("e {1", "}"), "0:1/1");
+        due(filled("e {", "1}"), "0:1/1");
+        due("e {" + "-".repeat(195) + "1}", "0:-1/1");
+        due("e {1" + "+1".repeat(97) + "}", "0:98/1");
+        due("e {1" + "-1".repeat(97) + "  ", "1:E1/0");
+        due("e {" + "!".repeat(196) + "}", "1:E1/1");
+        due(";".repeat(200), "0:/0");
+        due(" ".repeat(200), "0:/0");
+        due("k {" + "{".repeat(98) + "}".repeat(98) + "}", "0:1/2");
+        due("[".repeat(200), "1:E8/0");
+        due("]".repeat(20), "1:E2/1");
+        due("]".repeat(200), "1:E7/0");
+        due("b ".repeat(100), "1:E1/0");
+        due("b;".repeat(100), "1:E9/1");
+        due("l;".repeat(100), "1:E3/1");
     }
 }
