@@ -395,7 +395,7 @@ public final class PeerScripts {
         private int count;
 
         void note(int c) {
-            latest[count % TALK_SHOWN] = c;
+            latest[placeOf(count)] = c;
             count++;
         }
 
@@ -403,7 +403,12 @@ public final class PeerScripts {
             if (k < 0 || k >= TALK_SHOWN || k >= count) {
                 return 0;
             }
-            return latest[(count - 1 - k) % TALK_SHOWN];
+            return latest[placeOf(count - 1 - k)];
+        }
+
+        // floorMod, for no count, however far it has gone, may leave the row.
+        private static int placeOf(int number) {
+            return Math.floorMod(number, TALK_SHOWN);
         }
     }
 

@@ -38,7 +38,7 @@ public final class ModelTest {
                 story.append(" reset");
             }
             rules(random, x, m, story);
-            String text = scribe.text();
+            String text = random.nextInt(5) == 0 ? scribe.noise() : scribe.text();
             for (char c : text.toCharArray()) {
                 Check.same(story + " put", x.put(c), m.put(c));
             }

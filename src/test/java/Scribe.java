@@ -20,15 +20,40 @@ final class Scribe {
         if (all.length() > 210) {
             all.setLength(210);
         }
+        if (random.nextInt(4) == 0) {
+            wrap(all);
+        }
         int spoils = random.nextInt(3) == 0 ? 1 + random.nextInt(3) : 0;
         for (int i = 0; i < spoils; i++) {
-            int at = random.nextInt(all.length());
-            String c = pick("{", "}", "[", "]", "\"", "\\", "$", " ", ";", "a", "1", "*");
-            String before = pick("l [", "s a [", "s b \"x[", "k {", "? {1} {", "* {1} {b;");
-            all.insert(0, before);
-            all.append(before.endsWith("[") ? "]" : "}").append(before.contains("\"") ? "\"" : "");
+            spoil(all);
         }
         return all.toString();
+    }
+
+    /** Signs in any order: hardly ever a whole script, but each place where one may end is met. */
+    String noise() {
+        StringBuilder all = new StringBuilder();
+        int most = 1 + random.nextInt(30);
+        for (int i = 0; i < most; i++) {
+            all.append(pick("{", "}", "[", "]", "\"", "\\", "$", " ", ";", "\n", "a", "$a", "l ", "s a ", "k {", "} ", "1", "l [", "x"));
+        }
+        return all.toString();
+    }
+
+    private void wrap(StringBuilder all) {
+        String before = pick("l [", "s a [", "s b \"x[", "k {", "? {1} {", "* {1} {b;");
+        all.insert(0, before);
+        all.append(before.endsWith("[") ? "]" : "}").append(before.contains("\"") ? "\"" : "");
+    }
+
+    private void spoil(StringBuilder all) {
+        int at = random.nextInt(all.length());
+        if (random.nextInt(3) == 0) {
+            all.deleteCharAt(at);
+        }
+        if (random.nextInt(3) > 0 || all.length() == 0) {
+            all.insert(Math.min(at, all.length()), pick("{", "}", "[", "]", "\"", "\\", "$", " ", ";", "a", "1", "*"));
+        }
     }
 
     private String pick(String... ones) {
